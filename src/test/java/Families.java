@@ -50,4 +50,21 @@ final class Families {
         x.see(2, marker, 1, 1);
         x.see(3, marker, one, other);
     }
+
+    /** As many of all as there may be, and all markers sure to show the letter 1: JOINT is 2^150. */
+    static LinkedMarkers largest() {
+        LinkedMarkers x = new LinkedMarkers();
+        x.founder();
+        x.founder();
+        x.founder();
+        x.child(0, 1);
+        x.child(0, 1);
+        x.child(3, 2);
+        for (int m = 0; m < 4; m++) {
+            x.marker(8, 0, 0);
+            x.see(m + 2, m, 1, 1);
+        }
+        x.rate(1, 3);
+        return x;
+    }
 }

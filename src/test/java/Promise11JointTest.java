@@ -36,6 +36,7 @@ public final class Promise11JointTest {
         x.rate(0, 0);
         x.rate(1, 3);
         dueSure(check, x);
+        dueSure(check, Families.largest());
     }
 
     private static void dueSure(Check check, LinkedMarkers x) {

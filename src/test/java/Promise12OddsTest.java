@@ -3,6 +3,7 @@ public final class Promise12OddsTest {
     public static void main(String[] args) {
         Check check = new Check();
         greatOdds(check);
+        largestNumbers(check);
         roundedDown(check);
         noOdds(check);
         wrongInputs(check);
@@ -22,6 +23,13 @@ public final class Promise12OddsTest {
         check.due("odds(1)", x.odds(1), 32768);
         check.due("odds(1000)", x.odds(1000), 32768000);
         check.due("rate(0, 0) stays", x.rate(0, 0), 0);
+    }
+
+    private static void largestNumbers(Check check) {
+        LinkedMarkers x = Families.largest();
+        check.due("odds(1) of 2^150", x.odds(1), 1);
+        check.due("odds(999) of 2^150", x.odds(999), 999);
+        check.due("odds(1000) of 2^150", x.odds(1000), 1000);
     }
 
     /** One bit must change, at a rate of 3 / 16 instead of 8 / 16. */

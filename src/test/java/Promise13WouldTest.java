@@ -28,6 +28,7 @@ public final class Promise13WouldTest {
         x.unsee(2, 0);
         x.unsee(3, 0);
         check.due("would(0, 5) when it does not matter", x.would(0, 5), 0);
+        check.due("would(1, 5) of 2^150", Families.largest().would(1, 5), 0);
     }
 
     private static void justThatGap(Check check) {

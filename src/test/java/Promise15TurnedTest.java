@@ -43,6 +43,7 @@ public final class Promise15TurnedTest {
         for (int bit = 0; bit < 4; bit++) {
             check.due("turned(1, bit) with nobody seen", x.turned(1, bit), 500);
         }
+        check.due("turned(2, 5) of 2^150", Families.largest().turned(2, 5), 500);
         x.see(0, 0, 1, 1);
         x.see(3, 0, 2, 2);
         check.due("turned(0, 2) of what can't be", x.turned(0, 2), LinkedMarkers.NONE);

@@ -28,6 +28,8 @@ public final class Promise16SharedTest {
         check.due("grandfather and grandchild", x.shared(0, 0, 5), 500);
         check.due("grandchild and grandmother", x.shared(0, 5, 1), 500);
         check.due("uncle and niece", x.shared(0, 4, 5), 500);
+        check.due("brother and sister of 2^150", Families.largest().shared(3, 3, 4), 750);
+        check.due("father and child of 2^150", Families.largest().shared(0, 0, 3), 1000);
     }
 
     /** What the grandchild has at marker 0 tells whose copy it is there, and 3 / 16 away from there. */
