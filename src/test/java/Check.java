@@ -73,9 +73,14 @@ final class Check {
         return page(x);
     }
 
+    /** Something was asked, and nothing was wrong. */
+    boolean isFine() {
+        return asked > 0 && wrong == 0;
+    }
+
     void end() {
         System.out.println(asked + " answers asked, " + wrong + " wrong");
-        if (wrong != 0 || asked == 0) {
+        if (!isFine()) {
             System.exit(1);
         }
     }

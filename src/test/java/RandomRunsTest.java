@@ -14,13 +14,17 @@ public final class RandomRunsTest {
             Dice dice = new Dice(run);
             Pair pair = new Pair(check);
             for (int call = 0; call < CALLS; call++) {
-                boolean change = dice.below(5) < 3;
-                String[] names = change ? CHANGES : QUESTIONS;
-                askOne(pair, dice, names[dice.below(names.length)]);
+                askAny(pair, dice);
             }
             pair.askForPage();
         }
         check.end();
+    }
+
+    static void askAny(Pair pair, Dice dice) {
+        boolean change = dice.below(5) < 3;
+        String[] names = change ? CHANGES : QUESTIONS;
+        askOne(pair, dice, names[dice.below(names.length)]);
     }
 
     private static void askOne(Pair pair, Dice dice, String name) {
