@@ -11,7 +11,8 @@ import java.util.Set;
 public final class RoomTest {
     private static final int MOST_OBJECTS = 60;
     private static final int MOST_ELEMENTS = 4000;
-    private static final int CALLS = 512;
+    private static final int ROUNDS = 50;
+    private static final int CALLS = 10 * ROUNDS;
     // The JVM itself may take a little on the thread, but far less than an object a call.
     private static final long MOST_BYTES = CALLS * 8L;
 
@@ -54,11 +55,11 @@ public final class RoomTest {
     private static void callsMakeNothing(Check check) {
         var bean = (com.sun.management.ThreadMXBean) ManagementFactory.getThreadMXBean();
         long thread = Thread.currentThread().getId();
-        dearCalls(Families.selfed(4), CALLS / 10);
+        dearCalls(Families.selfed(4), ROUNDS);
         LinkedMarkers x = Families.selfed(4);
         bean.getThreadAllocatedBytes(thread);
         long start = bean.getThreadAllocatedBytes(thread);
-        dearCalls(x, CALLS / 10);
+        dearCalls(x, ROUNDS);
         long made = bean.getThreadAllocatedBytes(thread) - start;
         check.dueTrue(made + " bytes made by the calls are few", made <= MOST_BYTES);
     }
