@@ -475,7 +475,10 @@ public final class LinkedMarkers {
         }
     }
 
-    /** A row of whole numbers from 0 on. The greatest there can be, 1000 * 2^150, has 49 digits. */
+    /**
+     * A row of whole numbers from 0 on. JOINT is 2^150 at most; the greatest number of all, 2^28 times
+     * that when a quotient is tried out, is below 10^54.
+     */
     private static final class Amounts {
         private static final int DIGITS = 54;
         // In base 10^9 six products of two places and what is carried still fit into a long.

@@ -2,18 +2,36 @@ import java.lang.reflect.Constructor;
 import java.lang.reflect.Field;
 import java.lang.reflect.Method;
 import java.lang.reflect.Modifier;
+import java.util.ArrayList;
 import java.util.Arrays;
 import java.util.List;
 import java.util.TreeSet;
 
 /** The public face is the document's and nothing more (LANGUAGE.md, rule 1). */
 public final class FaceTest {
+    private static final String INDEX = "IndexOutOfBoundsException";
+    private static final String ARGUMENT = "IllegalArgumentException";
+    private static final String STATE = "IllegalStateException";
+
     private static final List<String> METHODS = List.of(
-            "int founder()", "int child(int, int)", "int marker(int, int, int)", "int rate(int, int)",
-            "void see(int, int, int, int)", "boolean unsee(int, int)", "int count(int)",
-            "int origin(int, int, int)", "int fit(int, int)", "int joint()", "int odds(int)",
-            "int would(int, int)", "int best(int)", "int turned(int, int)", "int shared(int, int, int)",
-            "int likely(int)", "int length()", "char charAt(int)");
+            "int founder() " + List.of(STATE),
+            "int child(int, int) " + List.of(INDEX, STATE),
+            "int marker(int, int, int) " + List.of(ARGUMENT, STATE),
+            "int rate(int, int) " + List.of(INDEX, ARGUMENT),
+            "void see(int, int, int, int) " + List.of(INDEX, ARGUMENT),
+            "boolean unsee(int, int) " + List.of(INDEX),
+            "int count(int) " + List.of(),
+            "int origin(int, int, int) " + List.of(INDEX),
+            "int fit(int, int) " + List.of(INDEX),
+            "int joint() " + List.of(STATE),
+            "int odds(int) " + List.of(ARGUMENT, STATE),
+            "int would(int, int) " + List.of(INDEX, ARGUMENT),
+            "int best(int) " + List.of(INDEX),
+            "int turned(int, int) " + List.of(INDEX),
+            "int shared(int, int, int) " + List.of(INDEX),
+            "int likely(int) " + List.of(INDEX),
+            "int length() " + List.of(),
+            "char charAt(int) " + List.of());
 
     public static void main(String[] args) {
         Check check = new Check();
@@ -53,8 +71,12 @@ public final class FaceTest {
 
     private static String signature(Method method) {
         String types = Arrays.toString(method.getParameterTypes());
+        List<String> thrown = new ArrayList<>();
+        for (Class<?> exception : method.getExceptionTypes()) {
+            thrown.add(exception.getSimpleName());
+        }
         return method.getReturnType() + " " + method.getName()
-                + "(" + types.substring(1, types.length() - 1) + ")";
+                + "(" + types.substring(1, types.length() - 1) + ") " + thrown;
     }
 
     private static void fields(Check check, Class<?> face) {
@@ -67,6 +89,7 @@ public final class FaceTest {
             }
         }
         check.due("the public constants", open.toString(), "[public static final int NONE]");
+        check.due("NONE", LinkedMarkers.NONE, -1);
     }
 
     private static void constructors(Check check, Class<?> face) {

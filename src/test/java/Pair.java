@@ -33,7 +33,7 @@ final class Pair {
         return text.toString();
     }
 
-    private static String answer(Object object, String name, int[] args) {
+    static String answer(Object object, String name, int[] args) {
         Class<?>[] types = new Class<?>[args.length];
         Object[] values = new Object[args.length];
         for (int i = 0; i < args.length; i++) {
